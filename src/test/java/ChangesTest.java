@@ -72,6 +72,7 @@ public final class ChangesTest {
     private static void givesUp() {
         givesUp("", 0);
         givesUp("a;", 0);
+        givesUp("a;b;c;d;e;f;g;h;", 0);
         givesUp("a unless a;", 1);
         givesUp("b;a unless a;", 2);
         givesUp("a;never if a;", 1);
@@ -113,6 +114,8 @@ public final class ChangesTest {
         x = Due.told("never if a;may a;a unless a;");
         due.is("idle(0) of a ban", x.idle(0), 0);
         due.is("idle(1)", x.idle(1), 0);
+        x = Due.told("never if a b c d e f g h;may a b c d e f g h;");
+        due.is("idle(0), all eight banned", x.idle(0), 0);
         x = Due.told("a unless a;b unless b;");
         due.is("idle(0), no set with or without", x.idle(0), 1);
     }

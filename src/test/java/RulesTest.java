@@ -9,6 +9,7 @@ public final class RulesTest {
         rules();
         faults();
         faultChangesNothing();
+        nothingIsLeftOfATextBefore();
         readingAnew();
         rule();
         turn();
@@ -128,7 +129,9 @@ public final class RulesTest {
         fault("i;", 0);
         fault("z;", 0);
         fault("a if i;", 5);
+        fault("a i b;", 2);
         fault("aa;", 0);
+        fault("az;", 0);
         fault("iff a;", 0);
         fault("a unles b;", 2);
         fault("a unlesss b;", 2);
@@ -188,6 +191,17 @@ public final class RulesTest {
         due.is("the same fault", x.rules(), -10 - 17);
         due.is("the text goes on", Due.typeAll(x, "d;"), 20);
         due.is("the same fault", x.rules(), -10 - 17);
+    }
+
+    private static void nothingIsLeftOfATextBefore() {
+        HoldUnless x = Due.told("a;");
+        due.is("a fault first", Due.read(x, "?"), -10);
+        due.is("a longer text", Due.read(x, "a if b   ;"), 1);
+        due.is("a shorter one ends too early", Due.read(x, "a if b"), -10 - 6);
+        due.is("a longer word", Due.read(x, "unless"), -10);
+        due.is("a shorter one", Due.read(x, "b"), -10 - 1);
+        due.is("rule(0, 0)", x.rule(0, 0), 0);
+        due.is("count(0)", x.count(0), 1);
     }
 
     private static void readingAnew() {

@@ -53,6 +53,10 @@ public final class SetsTest {
         x.assume(0, 1);
         due.is("set(0), a and b assumed", x.set(0), Due.bits("ab"));
         due.is("sets()", x.sets(), 1);
+        due.is("stands(ab)", x.stands(Due.bits("ab")), 1);
+        due.is("stands(a)", x.stands(Due.bits("a")), 0);
+        due.is("stands(b)", x.stands(Due.bits("b")), 0);
+        due.is("stands()", x.stands(0), 0);
     }
 
     private static void bans() {
@@ -89,6 +93,12 @@ public final class SetsTest {
         HoldUnless x = Due.told("a unless b;b unless a;c if a;c if b;may d;e if d;");
         due.is("holds(0)", x.holds(0), Due.bits("abcde"));
         due.is("holds(1)", x.holds(1), Due.bits("c"));
+        x.assume(1, 1);
+        due.is("holds(0), b assumed", x.holds(0), Due.bits("bcde"));
+        due.is("holds(1), b assumed", x.holds(1), Due.bits("bc"));
+        x = Due.told("a;b;c;d;e;f;g;h;");
+        due.is("holds(0), all facts", x.holds(0), 255);
+        due.is("holds(1), all facts", x.holds(1), 255);
         x = Due.told("a unless a;");
         due.is("holds(0), no set", x.holds(0), 0);
         due.is("holds(1), no set", x.holds(1), 255);
@@ -123,7 +133,20 @@ public final class SetsTest {
         x.assume(0, 1);
         due.is("known(0), assumed", x.known(0), 1);
         due.is("known(1), against one assumed", x.known(1), 0);
-        x.assume(0, 0);
+        x.assume(2, 1);
+        due.is("known(2), assumed without a rule", x.known(2), 1);
+        x = Due.told("b if a;c unless b;may d;");
+        x.assume(0, 1);
+        due.is("known(1), by one assumed", x.known(1), 1);
+        due.is("known(2), against it", x.known(2), 0);
+        due.is("known(3), may", x.known(3), HoldUnless.NONE);
+        x.assume(3, 1);
+        due.is("known(3), may and assumed", x.known(3), 1);
+        // b is open, so what is assumed must stay in more for c to be open and not ruled out.
+        x = Due.told("b unless d;d unless b;c if a b;");
+        x.assume(0, 1);
+        due.is("known(2), by one assumed and one open", x.known(2), HoldUnless.NONE);
+        x = Due.told("a unless b;b unless a;");
         x.turn(0, 0);
         due.is("known(0), its rule off", x.known(0), 0);
         due.is("known(1), the other rule off", x.known(1), 1);
