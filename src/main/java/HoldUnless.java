@@ -499,20 +499,18 @@ public final class HoldUnless {
         }
 
         private int ifsUnder(int heads, int on) {
-            int under = 0;
-            for (int k = 0; k < size; k++) {
-                if (bitOf(on, k) == 1 && bitOf(heads, head[k]) == 1) {
-                    under |= ifs[k];
-                }
-            }
-            return under;
+            return partUnder(ifs, heads, on);
         }
 
         private int unlessUnder(int heads, int on) {
+            return partUnder(unless, heads, on);
+        }
+
+        private int partUnder(int[] part, int heads, int on) {
             int under = 0;
             for (int k = 0; k < size; k++) {
                 if (bitOf(on, k) == 1 && bitOf(heads, head[k]) == 1) {
-                    under |= unless[k];
+                    under |= part[k];
                 }
             }
             return under;

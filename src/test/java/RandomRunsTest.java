@@ -5,7 +5,7 @@ public final class RandomRunsTest {
     private static final int RUNS = 120;
     private static final int CALLS = 512;
     private static final String[] WORDS =
-            {"if", "unless", "never", "may", ";", "a", "b", "c", "d", "h", "i", "iff", "A", "?", "unlessa", " ", "\u00ff"};
+            {"if", "unless", "never", "may", ";", "a", "b", "c", "d", "h", "i", "iff", "A", "?", "unlessa", "\u00ff"};
 
     private final Due due;
     private final Random random;
