@@ -4,12 +4,18 @@ import java.nio.charset.StandardCharsets;
 final class Due {
     private int wrong;
     private int asked;
+    private String sentence = "";
+
+    /** From here on the document's words are tested that are quoted here; they stand ahead of what is wrong. */
+    void sentence(String quoted) {
+        sentence = "[" + quoted + "] ";
+    }
 
     void is(String call, long got, long want) {
         asked++;
         if (got != want) {
             wrong++;
-            System.out.println(call + " answered " + got + ", due is " + want);
+            System.out.println(sentence + call + " answered " + got + ", due is " + want);
         }
     }
 
