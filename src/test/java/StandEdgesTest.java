@@ -240,6 +240,12 @@ public final class StandEdgesTest {
         x = Due.told("a unless b;b unless a;h if a;h if b;");
         due.is("holds(0)", x.holds(0), Due.bits("abh"));
         due.is("holds(1)", x.holds(1), Due.bits("h"));
+        x.assume(1, 1);
+        due.is("holds(0), b assumed", x.holds(0), Due.bits("bh"));
+        due.is("holds(1), b assumed", x.holds(1), Due.bits("bh"));
+        x.turn(3, 0);
+        due.is("holds(0), a rule off", x.holds(0), Due.bits("b"));
+        due.is("holds(1), a rule off", x.holds(1), Due.bits("b"));
     }
 
     // ---- promise 12
@@ -372,6 +378,16 @@ public final class StandEdgesTest {
         whyIs(x, 0, 0, 1, 3);
         x = Due.told("never if b unless c;a;a;");
         whyIs(x, 0, 0, 1, 1);
+        // Rule 0 never brings b, though d, which keeps it away, comes only in round 3.
+        x = Due.told("b unless d;c if b;a;e if a;d if e;b if d;");
+        whyIs(x, 0, 3, 3, 4);
+        whyIs(x, 0, 1, 4, 5);
+        whyIs(x, 0, 2, 5, 1);
+        // Nor does a rule that is off bring what another one brings later.
+        x = Due.told("b;c if b;a;b if a;");
+        x.turn(0, 0);
+        whyIs(x, 0, 1, 2, 3);
+        whyIs(x, 0, 2, 3, 1);
     }
 
     private static void whyInTheLastRound() {
@@ -479,6 +495,19 @@ public final class StandEdgesTest {
         x.assume(0, 1);
         x.assume(1, 1);
         due.is("hangs(0): whether they are assumed does not count", x.hangs(0), 3);
+        // Whichever rule of a tangle is off, there is none.
+        String[] tangles = {"a if b;b unless a;", "a unless b;b unless c;c unless a;", "a unless b;b if c;c if a;"};
+        for (String text : tangles) {
+            HoldUnless y = Due.told(text);
+            int all = y.hangs(1);
+            due.is("hangs(1) of " + text, all, (1 << y.count(0)) - 1);
+            for (int k = 0; k < y.count(0); k++) {
+                y.turn(k, 0);
+                due.is("hangs(1) of " + text + " without " + k, y.hangs(1), 0);
+                y.turn(k, 1);
+                due.is("hangs(1) of " + text, y.hangs(1), all);
+            }
+        }
     }
 
     private static void hangsNotByBans() {
