@@ -14,6 +14,7 @@ public final class KindEdgesTest {
         traceByEachKind();
         traceOfNothing();
         traceStays();
+        traceOverRules();
         usedFor512Calls();
         changedFor512Calls();
         readAgainAndAgain();
@@ -144,8 +145,30 @@ public final class KindEdgesTest {
         x.type(0x613b, 2);
         due.is("trace()", x.trace(), 10101);
         x.clear();
-        x.rules();
-        due.is("trace() after rules()", x.trace(), 10101);
+        due.is("trace() after clear()", x.trace(), 10101);
+    }
+
+    /** No sentence takes the trace back: it is not among what is read anew, nor in an image. */
+    private static void traceOverRules() {
+        due.sentence("Nothing is promised beyond the answers and state changes described above");
+        HoldUnless x = Due.told("a if b unless c;");
+        x.mark(2, 0);
+        due.is("rules() of another text", Due.read(x, "never if a;"), 1);
+        due.is("trace() after rules()", x.trace(), 101);
+        x.mark(5, 0);
+        due.is("trace() goes on from there", x.trace(), 100102);
+        due.is("rules() with a fault", Due.read(x, "a if"), -14);
+        due.is("trace() after a fault", x.trace(), 100102);
+        x.clear();
+        due.is("rules() of no text", x.rules(), 0);
+        due.is("trace() without rules", x.trace(), 100102);
+        due.sentence("IMAGES 0, 1 keep which RULES are ON, and what is ASSUMED; nothing else");
+        x = Due.told("a;");
+        x.mark(0, 0);
+        x.keep(0);
+        x.mark(1, 0);
+        x.back(0);
+        due.is("trace() after back(0)", x.trace(), 12);
     }
 
     // ---- what it is

@@ -9,17 +9,6 @@ public final class RefusalEdgesTest {
     private static final int[] NO_SET = {-1, -255, -256, 256, 257, 511, 65536, MIN, MAX};
     private static final int[] NO_RULE = {-1, -10, 10, 11, 32, 64, 256, MIN, MAX};
 
-    private record Named(String name, Twins.Maker maker) {
-    }
-
-    private static final Named[] STATES = {
-        new Named("a new object", HoldUnless::new),
-        new Named("ten rules", RefusalEdgesTest::tenRules),
-        new Named("a full text", RefusalEdgesTest::fullText),
-        new Named("a text with a fault", RefusalEdgesTest::faultyText),
-        new Named("no set", RefusalEdgesTest::noSet),
-    };
-
     public static void main(String[] args) {
         badType();
         fullType();
@@ -46,57 +35,9 @@ public final class RefusalEdgesTest {
         due.end();
     }
 
-    // ---- states
-
-    /** Ten rules, some off, some sentences assumed, one image kept, a text that would read well. */
-    private static HoldUnless tenRules() {
-        HoldUnless x = Due.told("a if b unless c;never if d unless e;c if a;d if d;e unless f;may b d;"
-                + "f unless e;g;h if g b;never unless g;b if h unless b;");
-        x.turn(3, 0);
-        x.assume(7, 1);
-        x.keep(0);
-        x.turn(9, 0);
-        x.turn(0, 0);
-        x.assume(7, 0);
-        x.assume(3, 1);
-        x.mark(3, 4);
-        Due.typeAll(x, "h if a;may c;never if a b;");
-        return x;
-    }
-
-    /** Three hundred bytes that would read well, both images kept. */
-    private static HoldUnless fullText() {
-        HoldUnless x = Due.told("a;b unless a;");
-        x.turn(1, 0);
-        x.keep(1);
-        x.assume(4, 1);
-        x.keep(0);
-        x.turn(0, 0);
-        Due.typeAll(x, "may a b;".repeat(37) + "  c;");
-        return x;
-    }
-
-    private static HoldUnless faultyText() {
-        HoldUnless x = Due.told("a if b unless c;never if d;may e;");
-        x.turn(0, 0);
-        x.assume(5, 1);
-        x.keep(1);
-        x.assume(6, 1);
-        x.mark(5, 1);
-        Due.typeAll(x, "may a;b if a;c if;");
-        return x;
-    }
-
-    private static HoldUnless noSet() {
-        HoldUnless x = Due.told("a unless a;b if a;c;");
-        x.keep(0);
-        x.turn(2, 0);
-        return x;
-    }
-
     private static void everywhere(String what, Twins.Call call, long want) {
-        for (Named state : STATES) {
-            Twins.unchanged(due, what + " with " + state.name, state.maker, call, want);
+        for (States.Named state : States.ALL) {
+            Twins.unchanged(due, what + " with " + state.name(), state.maker(), call, want);
         }
     }
 
@@ -132,13 +73,13 @@ public final class RefusalEdgesTest {
 
     private static void fault() {
         due.sentence("-10 less FAULT: nothing changes");
-        Twins.unchanged(due, "rules()", RefusalEdgesTest::faultyText, HoldUnless::rules, -10 - 17);
+        Twins.unchanged(due, "rules()", States::faultyText, HoldUnless::rules, -10 - 17);
         String[] texts = {"?", "a", "a;b;c;d;e;f;g;h;a;b;c;", "never;", "may a;may b", "h if a unless;"};
         int[] places = {0, 1, 20, 5, 11, 13};
         for (int i = 0; i < texts.length; i++) {
             String text = texts[i];
             Twins.Maker maker = () -> {
-                HoldUnless x = tenRules();
+                HoldUnless x = States.tenRules();
                 x.clear();
                 Due.typeAll(x, text);
                 return x;
@@ -265,11 +206,11 @@ public final class RefusalEdgesTest {
     private static void stateIdle() {
         due.sentence("IDLE: 1, 0. BAD; STATE: it is OFF");
         for (int k : new int[] {0, 3, 9}) {
-            Twins.unchanged(due, "idle(" + k + ")", RefusalEdgesTest::tenRules, x -> x.idle(k), HoldUnless.STATE);
+            Twins.unchanged(due, "idle(" + k + ")", States::tenRules, x -> x.idle(k), HoldUnless.STATE);
         }
-        Twins.unchanged(due, "idle(0)", RefusalEdgesTest::fullText, x -> x.idle(0), HoldUnless.STATE);
-        Twins.unchanged(due, "idle(1)", RefusalEdgesTest::fullText, x -> x.idle(1), HoldUnless.STATE);
-        Twins.unchanged(due, "idle(2)", RefusalEdgesTest::noSet, x -> x.idle(2), HoldUnless.STATE);
+        Twins.unchanged(due, "idle(0)", States::fullText, x -> x.idle(0), HoldUnless.STATE);
+        Twins.unchanged(due, "idle(1)", States::fullText, x -> x.idle(1), HoldUnless.STATE);
+        Twins.unchanged(due, "idle(2)", States::noSet, x -> x.idle(2), HoldUnless.STATE);
     }
 
     private static void badAlike() {
@@ -327,10 +268,10 @@ public final class RefusalEdgesTest {
     private static void notKept(String name, ImageCall call) {
         refusedImage(name, HoldUnless::new, call, 0);
         refusedImage(name, HoldUnless::new, call, 1);
-        refusedImage(name, RefusalEdgesTest::tenRules, call, 1);
-        refusedImage(name, RefusalEdgesTest::faultyText, call, 0);
+        refusedImage(name, States::tenRules, call, 1);
+        refusedImage(name, States::faultyText, call, 0);
         Twins.Maker readAnew = () -> {
-            HoldUnless x = fullText();
+            HoldUnless x = States.fullText();
             x.rules();
             x.assume(2, 1);
             return x;

@@ -24,6 +24,23 @@ final class Twins {
         same(due, what, asked, left);
     }
 
+    /** A call that only asks: it answers alike if it is asked again, and changes nothing. */
+    static void onlyAsks(Due due, String what, Maker maker, Call call) {
+        HoldUnless asked = maker.make();
+        long first = call.ask(asked);
+        due.is(what + ", asked again", call.ask(asked), first);
+        same(due, what, asked, maker.make());
+    }
+
+    /** Two calls, by which one object each comes to answer all alike. */
+    static void comesToTheSame(Due due, String what, Maker maker, Call call, Call other) {
+        HoldUnless one = maker.make();
+        HoldUnless another = maker.make();
+        call.ask(one);
+        other.ask(another);
+        same(due, what, one, another);
+    }
+
     /** Compares all that two objects answer; they are brought to their images and read anew in the end. */
     static void same(Due due, String what, HoldUnless one, HoldUnless other) {
         sameNow(due, what, one, other);
